@@ -30,7 +30,8 @@ public final class BurialGround {
 
     // ---- the ground
 
-    public int lay(int plot, int kind) throws IndexOutOfBoundsException, IllegalArgumentException, IllegalStateException {
+    public int lay(int plot, int kind)
+            throws IndexOutOfBoundsException, IllegalArgumentException, IllegalStateException {
         needPlot(plot);
         if (plot == Ledger.GATE) {
             throw new IndexOutOfBoundsException("the gate stays a path");
@@ -68,7 +69,8 @@ public final class BurialGround {
 
     // ---- burials, reservations, vaults
 
-    public int bury(int family, int plot, int depth) throws IndexOutOfBoundsException, IllegalArgumentException, IllegalStateException {
+    public int bury(int family, int plot, int depth)
+            throws IndexOutOfBoundsException, IllegalArgumentException, IllegalStateException {
         needFamily(family);
         needPlot(plot);
         needDepth(depth);
@@ -79,7 +81,8 @@ public final class BurialGround {
         return now.addBurial(family, plot, depth);
     }
 
-    public int reserve(int family, int plot, int years) throws IndexOutOfBoundsException, IllegalArgumentException, IllegalStateException {
+    public int reserve(int family, int plot, int years)
+            throws IndexOutOfBoundsException, IllegalArgumentException, IllegalStateException {
         needFamily(family);
         needPlot(plot);
         if (years < 1 || years > MOST_YEARS_TO_RESERVE) {
@@ -249,7 +252,7 @@ public final class BurialGround {
             hash = plotDigest(hash, plot);
         }
         for (int family = 0; family < FAMILIES; family++) {
-            hash = familyDigest(hash, family);
+            hash = 31 * familyDigest(hash, family) + now.cheapestPlot(family);
         }
         hash = 31 * hash + bitsOf(now.meanOfFees());
         return bufferDigest(hash);
@@ -273,7 +276,7 @@ public final class BurialGround {
         for (int what = 0; what <= 5; what++) {
             hash = 31 * hash + now.familyProperty(family, what);
         }
-        return 31 * hash + now.cheapestPlot(family);
+        return hash;
     }
 
     private long bufferDigest(long start) {
@@ -572,10 +575,10 @@ public final class BurialGround {
             return burialsIn(plot) == 0 && vaultOf[plot] == NONE && reservedFor[plot] == NONE;
         }
 
+        /** Leaves reached as it is: a plot without burials is open before and after. */
         int changeKind(int plot, int newKind) {
             int previous = kind[plot];
             kind[plot] = newKind;
-            reached = reachedWithout(0L);
             return previous;
         }
 
@@ -593,8 +596,8 @@ public final class BurialGround {
 
         int removeBurials(int plot) {
             int gone = burialsIn(plot);
-            for (int depth = 1; depth <= DEPTHS; depth++) {
-                int place = placeOf(plot, depth);
+            int first = plot * DEPTHS;
+            for (int place = first; place < first + DEPTHS; place++) {
                 buried[place] = NONE;
                 buriedIn[place] = NONE;
                 feePaid[place] = NONE;
@@ -604,7 +607,7 @@ public final class BurialGround {
         }
 
         boolean mayReserve(int family, int plot) {
-            return kind[plot] != PATH && vaultOf[plot] == NONE && !isHeldByOther(family, plot, year);
+            return kind[plot] != PATH && vaultOf[plot] == NONE && !isOther(holder(plot, year), family);
         }
 
         int addReservation(int family, int plot, int years) {
@@ -616,7 +619,7 @@ public final class BurialGround {
 
         boolean mayBuildVault(int family, int plot) {
             return kind[plot] != PATH && kind[plot] != ROCK && vaultOf[plot] == NONE && burialsIn(plot) == 0
-                && !isHeldByOther(family, plot, year) && isReached(plot);
+                && !isOther(holder(plot, year), family) && isReached(plot);
         }
 
         int addVault(int family, int plot) {
@@ -638,22 +641,19 @@ public final class BurialGround {
             return plot * DEPTHS + depth - 1;
         }
 
-        private boolean isBuried(int plot, int depth) {
-            return buried[placeOf(plot, depth)] != NONE;
+        private int endOfRest(int place) {
+            return buriedIn[place] + YEARS_OF_REST[kind[place / DEPTHS]];
         }
 
-        private int endOfRest(int plot, int depth) {
-            return buriedIn[placeOf(plot, depth)] + YEARS_OF_REST[kind[plot]];
-        }
-
-        private boolean isResting(int plot, int depth, int atYear) {
-            return isBuried(plot, depth) && atYear < endOfRest(plot, depth);
+        private boolean isResting(int place, int atYear) {
+            return buried[place] != NONE && atYear < endOfRest(place);
         }
 
         private int burialsIn(int plot) {
             int found = 0;
-            for (int depth = 1; depth <= DEPTHS; depth++) {
-                if (isBuried(plot, depth)) {
+            int first = plot * DEPTHS;
+            for (int place = first; place < first + DEPTHS; place++) {
+                if (buried[place] != NONE) {
                     found++;
                 }
             }
@@ -662,8 +662,9 @@ public final class BurialGround {
 
         int restingBurials(int plot) {
             int found = 0;
-            for (int depth = 1; depth <= DEPTHS; depth++) {
-                if (isResting(plot, depth, year)) {
+            int first = plot * DEPTHS;
+            for (int place = first; place < first + DEPTHS; place++) {
+                if (isResting(place, year)) {
                     found++;
                 }
             }
@@ -672,9 +673,10 @@ public final class BurialGround {
 
         int yearOfRest(int plot) {
             int latest = year;
-            for (int depth = 1; depth <= DEPTHS; depth++) {
-                if (isBuried(plot, depth)) {
-                    latest = Math.max(latest, endOfRest(plot, depth));
+            int first = plot * DEPTHS;
+            for (int place = first; place < first + DEPTHS; place++) {
+                if (buried[place] != NONE) {
+                    latest = Math.max(latest, endOfRest(place));
                 }
             }
             return latest;
@@ -695,17 +697,17 @@ public final class BurialGround {
             if (isReservedIn(plot, atYear)) {
                 return reservedFor[plot];
             }
-            for (int depth = 1; depth <= DEPTHS; depth++) {
-                if (isResting(plot, depth, atYear)) {
-                    return buried[placeOf(plot, depth)];
+            int leastDeep = plot * DEPTHS;
+            for (int place = leastDeep; place < leastDeep + DEPTHS; place++) {
+                if (isResting(place, atYear)) {
+                    return buried[place];
                 }
             }
             return NONE;
         }
 
-        private boolean isHeldByOther(int family, int plot, int atYear) {
-            int held = holder(plot, atYear);
-            return held != NONE && held != family;
+        private static boolean isOther(int holder, int family) {
+            return holder != NONE && holder != family;
         }
 
         private int greatestDepth(int plot) {
@@ -772,7 +774,7 @@ public final class BurialGround {
             if (kind[plot] == PATH) {
                 return 1;
             }
-            if (isHeldByOther(family, plot, atYear)) {
+            if (isOther(holder(plot, atYear), family)) {
                 return 2;
             }
             if (depth > greatestDepth(plot)) {
@@ -796,8 +798,9 @@ public final class BurialGround {
 
         /** The greatest depth down to which no burial lies, whatever the soil; 0 if there is none. */
         private int freeDepth(int plot) {
+            int first = plot * DEPTHS;
             int free = 0;
-            while (free < DEPTHS && !isBuried(plot, free + 1)) {
+            while (free < DEPTHS && buried[first + free] == NONE) {
                 free++;
             }
             return free;
@@ -805,8 +808,9 @@ public final class BurialGround {
 
         private int latestBurial(int plot) {
             int latest = 0;
-            for (int depth = 1; depth <= DEPTHS; depth++) {
-                latest = Math.max(latest, buriedIn[placeOf(plot, depth)]);
+            int first = plot * DEPTHS;
+            for (int place = first; place < first + DEPTHS; place++) {
+                latest = Math.max(latest, buriedIn[place]);
             }
             return latest;
         }
@@ -872,18 +876,19 @@ public final class BurialGround {
         }
 
         int burialProperty(int plot, int depth, int what) {
-            if (!isBuried(plot, depth)) {
+            int place = placeOf(plot, depth);
+            if (buried[place] == NONE) {
                 return NONE;
             }
             switch (what) {
                 case 0:
-                    return buried[placeOf(plot, depth)];
+                    return buried[place];
                 case 1:
-                    return buriedIn[placeOf(plot, depth)];
+                    return buriedIn[place];
                 case 2:
-                    return isResting(plot, depth, year) ? 0 : 1;
+                    return isResting(place, year) ? 0 : 1;
                 default:
-                    return feePaid[placeOf(plot, depth)];
+                    return feePaid[place];
             }
         }
 
