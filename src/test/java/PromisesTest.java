@@ -253,6 +253,12 @@ public final class PromisesTest {
         refused("8 rock, 59 years", g, Checks.STATE, () -> g.clear(3));
         g.pass(1);
         due("8 rock, 60 years", g.clear(3), 1);
+        g.bury(2, 38, 3);
+        g.bury(2, 39, 1);
+        g.pass(30);
+        due("8 one of two neighbours", g.clear(38), 1);
+        due("8 the other one stays", g.burial(39, 1, 0), 2);
+        due("8 the last plot", g.clear(39), 1);
         for (int plot : NO_PLOTS) {
             refused("8 plot " + plot, g, Checks.INDEX, () -> g.clear(plot));
         }
@@ -655,6 +661,14 @@ public final class PromisesTest {
         due("18 the latest year counts", g.why(0, 1, 1), 6);
         g.bury(1, 8, 3);
         due("18 still beside the gate", g.why(0, 1, 1), 6);
+        g.undo();
+        g.pass(1);
+        g.bury(1, 2, 1);
+        due("18 the next plot's year does not count", g.why(0, 1, 1), 0);
+        g.buildVault(0, 39);
+        due("18 the last plot", g.why(0, 39, 3), 0);
+        g.bury(0, 39, 3);
+        due("18 the last plot in this year", g.why(0, 39, 2), 6);
         BurialGround h = new BurialGround();
         h.buildVault(0, 2);
         h.bury(0, 2, 3);
