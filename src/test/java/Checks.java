@@ -22,6 +22,14 @@ final class Checks {
         }
     }
 
+    static void same(String what, String got, String want) {
+        made++;
+        if (!got.equals(want)) {
+            wrong++;
+            System.out.println(what + " ended with " + got + ", due is " + want);
+        }
+    }
+
     /** Also sees to it that the call changes nothing. */
     static void refused(String what, BurialGround ground, String exception, Call call) {
         long before = ground.digest();
@@ -31,11 +39,7 @@ final class Checks {
         } catch (RuntimeException e) {
             got = e.getClass().getSimpleName();
         }
-        made++;
-        if (!got.equals(exception)) {
-            wrong++;
-            System.out.println(what + " ended with " + got + ", due is " + exception);
-        }
+        same(what, got, exception);
         due(what + ": digest afterwards", ground.digest(), before);
     }
 
