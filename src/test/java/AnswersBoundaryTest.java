@@ -17,6 +17,48 @@ public final class AnswersBoundaryTest extends Boundary {
         return g -> g.plot(plot, what);
     }
 
+    // ---- all questions
+
+    private static void questionsChangeNothing() {
+        sentence("Terms", "what would be; nothing is changed");
+        Preparation rich = g -> {
+            g.setParish(3, false);
+            g.buildVault(3, 1);
+            g.bury(3, 1, 3);
+            g.reserve(4, 20, 3);
+            g.bury(4, 20, 2);
+            g.pass(2);
+            g.bury(5, 8, 3);
+            write(g, "b0:1,1;r");
+        };
+        for (int plot = 0; plot < 40; plot++) {
+            BurialGround asked = ready(rich);
+            for (int depth = 1; depth <= 3; depth++) {
+                for (int family = 0; family <= 9; family++) {
+                    askOfBurial(asked, family, plot, depth);
+                }
+            }
+            asked.clearYear(plot);
+            asked.cutsOff(plot);
+            asked.meanFee();
+            asked.firstError();
+            asked.digest();
+            sameGrounds("all questions of " + plot, asked, ready(rich));
+        }
+    }
+
+    private static void askOfBurial(BurialGround asked, int family, int plot, int depth) {
+        asked.why(family, plot, depth);
+        asked.fee(family, plot, depth);
+        asked.deepest(family, plot);
+        asked.bestPlot(family);
+        asked.yearFor(family, plot, depth);
+        asked.plot(plot, depth);
+        asked.burial(plot, depth, depth);
+        asked.family(family, depth);
+        asked.count(depth);
+    }
+
     // ---- promise 14
 
     private static void plot() {
@@ -159,6 +201,22 @@ public final class AnswersBoundaryTest extends Boundary {
             g.reserve(0, 20, 1);
         }, 1, 0, 0, 0, 0, 0);
         ofFamily("a refused burial", g -> endingOf(g, x -> x.bury(9, 0, 1)), 1, 0, 0, 0, 0, 0);
+        Preparation neighbours = g -> {
+            g.bury(8, 1, 3);
+            g.bury(7, 2, 3);
+            g.buildVault(8, 3);
+            g.bury(8, 3, 3);
+            g.reserve(7, 4, 1);
+        };
+        int[] ofSeven = {1, 52, 1, 1, 2, 0};
+        int[] ofEight = {1, 230, 2, 2, 2, 1};
+        for (int what = 0; what <= 5; what++) {
+            int property = what;
+            onlyTells("two families, family(7, " + what + ")", neighbours, g -> g.family(7, property), ofSeven[what]);
+            onlyTells("two families, family(8, " + what + ")", neighbours, g -> g.family(8, property), ofEight[what]);
+            onlyTells("neither, family(6, " + what + ")", neighbours, g -> g.family(6, property), what == 0 ? 1 : 0);
+        }
+        ofFamily("neither", neighbours, 1, 0, 0, 0, 0, 0);
         ofFamily("every plot reserved", g -> {
             for (int plot = 1; plot < 40; plot++) {
                 g.reserve(9, plot, 1);
@@ -341,8 +399,9 @@ public final class AnswersBoundaryTest extends Boundary {
     // ---- promise 21
 
     private static void bestPlot() {
-        sentence("Promise 21, bestPlot", "Returns the plot in which it may bury now at some depth, with the least fee of"
-            + " these depths, of several the one with fewer burials, of several the lowest one; NONE if there is none.");
+        sentence("Promise 21, bestPlot", "Returns the plot in which it may bury now at some depth, with the least fee"
+            + " of these depths, of several the one with fewer burials, of several the lowest one; NONE if there is"
+            + " none.");
         Call best = g -> g.bestPlot(4);
         onlyTells("the lowest one", NOTHING, best, 1);
         onlyTells("no path", g -> g.lay(1, PATH), best, 2);
@@ -572,8 +631,8 @@ public final class AnswersBoundaryTest extends Boundary {
     // ---- promise 25
 
     private static void meanFee() {
-        sentence("Promise 25, meanFee", "Returns the sum of the fees of the burials that are there, as a double, divided"
-            + " by their number; 0.0 if there are none.");
+        sentence("Promise 25, meanFee", "Returns the sum of the fees of the burials that are there, as a double,"
+            + " divided by their number; 0.0 if there are none.");
         mean("new", NOTHING, 0.0);
         Preparation one = g -> g.bury(0, 20, 1);
         mean("one", one, 30.0);
@@ -619,6 +678,10 @@ public final class AnswersBoundaryTest extends Boundary {
         onlyTells("the greatest character", text("~"), g -> g.digest(), digestOfNew("~"));
         onlyTells("a full buffer", text("b~".repeat(30)), g -> g.digest(), digestOfNew("b~".repeat(30)));
         onlyTells("an emptied buffer", then(text("b~"), g -> g.clearBuffer()), g -> g.digest(), digestOfNew(""));
+        sentence("Promise 26, digest", "The values are: count(0) to count(8); for each plot its properties 0 to 8, for"
+            + " each of the depths 1 to 3 its burial's properties 0 to 3, and clearYear; for each family its properties"
+            + " 0 to 5, and bestPlot; the bits of meanFee (as Double.doubleToLongBits); the length of the buffer and"
+            + " each of its character codes.");
         digestOf("one burial", g -> g.bury(0, 20, 1));
         digestOf("mean fee a power of two", g -> {
             for (int plot = 2; plot <= 5; plot++) {
@@ -713,6 +776,7 @@ public final class AnswersBoundaryTest extends Boundary {
     }
 
     public static void main(String[] args) {
+        questionsChangeNothing();
         plot();
         plotWrongly();
         burial();

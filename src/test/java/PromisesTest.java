@@ -429,9 +429,9 @@ public final class PromisesTest {
         due("13 undone to the first round", g.family(6, 0), 1);
     }
 
-    /** All answers but the number of saved states. */
+    /** The digest without the number of saved states; wants an empty buffer. */
     private static long stateOf(BurialGround g) {
-        long hash = digestOf(g, "");
+        long hash = g.digest();
         long power = 1;
         for (int i = 0; i < 40 * 22 + 10 * 7 + 2; i++) {
             power *= 31;
@@ -880,61 +880,25 @@ public final class PromisesTest {
         due("25 those that are there", Double.doubleToLongBits(g.meanFee()), Double.doubleToLongBits(40.0));
     }
 
+    /** AnswersBoundaryTest says what the hash is; here: it tells states from one another, and only states. */
     private static void digest() {
         BurialGround g = new BurialGround();
-        due("26 new", g.digest(), digestOf(g, ""));
-        due("26 another new one", new BurialGround().digest(), g.digest());
-        g.setParish(3, false);
-        g.lay(2, SAND);
-        g.buildVault(3, 1);
-        g.bury(3, 1, 3);
-        g.bury(4, 2, 1);
-        g.bury(4, 8, 2);
-        g.reserve(5, 4, 7);
-        due("26 in use", g.digest(), digestOf(g, ""));
-        g.pass(20);
-        Checks.write(g, "b1:~!");
-        due("26 with a buffer", g.digest(), digestOf(g, "b1:~!"));
+        long first = g.digest();
+        due("26 another new one", new BurialGround().digest(), first);
+        due("26 asked again", g.digest(), first);
+        g.append('b');
+        due("26 another buffer", g.digest() == first ? 1 : 0, 0);
         g.clearBuffer();
-        due("26 with an empty buffer", g.digest(), digestOf(g, ""));
-        BurialGround h = new BurialGround();
-        for (int plot = 2; plot <= 5; plot++) {
-            h.bury(0, plot, 1);
-        }
-        h.bury(0, 6, 2);
-        due("26 mean fee 32", h.meanFee() == 32.0 ? 1 : 0, 1);
-        due("26 a mean fee that is a power of two", h.digest(), digestOf(h, ""));
-    }
-
-    /** The digest from the answers of the other calls. */
-    static long digestOf(BurialGround g, String buffer) {
-        long hash = 2267;
-        for (int what = 0; what <= 8; what++) {
-            hash = 31 * hash + g.count(what);
-        }
-        for (int plot = 0; plot < 40; plot++) {
-            for (int what = 0; what <= 8; what++) {
-                hash = 31 * hash + g.plot(plot, what);
-            }
-            for (int depth = 1; depth <= 3; depth++) {
-                for (int what = 0; what <= 3; what++) {
-                    hash = 31 * hash + g.burial(plot, depth, what);
-                }
-            }
-            hash = 31 * hash + g.clearYear(plot);
-        }
-        for (int family = 0; family < 10; family++) {
-            for (int what = 0; what <= 5; what++) {
-                hash = 31 * hash + g.family(family, what);
-            }
-            hash = 31 * hash + g.bestPlot(family);
-        }
-        hash = 31 * hash + Double.doubleToLongBits(g.meanFee());
-        hash = 31 * hash + buffer.length();
-        for (int i = 0; i < buffer.length(); i++) {
-            hash = 31 * hash + buffer.charAt(i);
-        }
-        return hash;
+        due("26 the same buffer again", g.digest(), first);
+        g.setParish(3, false);
+        long second = g.digest();
+        due("26 another parish", second == first ? 1 : 0, 0);
+        g.bury(3, 1, 3);
+        due("26 another burial", g.digest() == second ? 1 : 0, 0);
+        g.undo();
+        due("26 undone", g.digest(), second);
+        g.undo();
+        due("26 all undone", g.digest(), first);
     }
 
     public static void main(String[] args) {

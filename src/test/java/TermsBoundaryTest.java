@@ -162,6 +162,32 @@ public final class TermsBoundaryTest extends Boundary {
         answers(what + ", a year later", later(buried, rest + 1), g -> g.burial(9, 1, 2), 1);
     }
 
+    private static void burialsInPlots() {
+        sentence("Terms, Plots", "In a plot lie burials, each with a depth (1, 2 or 3; 3 is the deepest), a family"
+            + " (0 to 9), and a year.");
+        Preparation three = g -> {
+            g.bury(0, 39, 3);
+            g.pass(30);
+            g.bury(5, 39, 2);
+            g.pass(30);
+            g.bury(9, 39, 1);
+        };
+        int[] families = {9, 5, 0};
+        for (int depth = 1; depth <= 3; depth++) {
+            int at = depth;
+            answers("the family at " + depth, three, g -> g.burial(39, at, 0), families[depth - 1]);
+            answers("the year at " + depth, three, g -> g.burial(39, at, 1), 90 - 30 * depth);
+            for (int family = 0; family <= 9; family++) {
+                int whose = family;
+                Preparation buried = g -> g.bury(whose, 39, at);
+                answers("of family " + family + " at " + depth, buried, g -> g.burial(39, at, 0), family);
+            }
+        }
+        refuses("no fourth one", three, g -> g.bury(9, 39, 1), STATE);
+        refuses("nothing at 0", NOTHING, g -> g.burial(39, 0, 0), INDEX);
+        refuses("nothing at 4", NOTHING, g -> g.burial(39, 4, 0), INDEX);
+    }
+
     private static void oldByItsKindNow() {
         sentence("Terms, Plots", "A burial is old in the year y if y is at least its year plus the years of rest of its"
             + " plot (by its kind now).");
@@ -195,6 +221,15 @@ public final class TermsBoundaryTest extends Boundary {
         answers("reserved", then(onlyWay, g -> g.reserve(0, 1, 5)), behind, 1);
         answers("a vault without burials", then(onlyWay, g -> g.buildVault(0, 1)), behind, 1);
         answers("a burial", buried, behind, 0);
+        for (int kind = CLAY; kind <= ROCK; kind++) {
+            int laid = kind;
+            Preparation soil = then(onlyWay, g -> g.lay(1, laid));
+            answers("no burials, kind " + kind, soil, behind, 1);
+            answers("a burial, kind " + kind, then(soil, g -> g.bury(0, 1, 1)), behind, 0);
+            answers("plots without burials, kind " + kind, soil, g -> g.count(3), 38);
+            answers("plots without burials but one, kind " + kind, then(soil, g -> g.bury(0, 1, 1)), g -> g.count(3),
+                37);
+        }
         answers("a burial in a vault", then(then(onlyWay, g -> g.buildVault(0, 1)), g -> g.bury(0, 1, 3)), behind, 0);
         answers("a burial that is old", later(buried, 30), behind, 0);
         answers("a cleared burial", then(later(buried, 30), g -> g.clear(1)), behind, 1);
@@ -506,8 +541,8 @@ public final class TermsBoundaryTest extends Boundary {
     }
 
     private static void fees() {
-        sentence("Terms, Burials", "The fee of a burial is 10 * depth + 20, and 30 more in a vault; all this twice for a"
-            + " family that is not of the parish; then 5 less, if the plot has a reservation of this family that has"
+        sentence("Terms, Burials", "The fee of a burial is 10 * depth + 20, and 30 more in a vault; all this twice for"
+            + " a family that is not of the parish; then 5 less, if the plot has a reservation of this family that has"
             + " not lapsed.");
         int[] plain = {30, 40, 50};
         int[] vault = {60, 70, 80};
@@ -549,8 +584,8 @@ public final class TermsBoundaryTest extends Boundary {
     // ---- undo
 
     private static void savedWithoutChange() {
-        sentence("Terms, Undo", "Each method that is marked \"undoable\" and does not throw an exception saves the state"
-            + " from before it (also if it changes nothing): all but the buffer and the saved states.");
+        sentence("Terms, Undo", "Each method that is marked \"undoable\" and does not throw an exception saves the"
+            + " state from before it (also if it changes nothing): all but the buffer and the saved states.");
         undoable("lay to the same kind", NOTHING, g -> g.lay(1, CLAY), CLAY);
         undoable("setParish to the same", NOTHING, g -> g.setParish(1, true), 1);
         undoable("clear of an empty plot", NOTHING, g -> g.clear(1), 0);
@@ -706,6 +741,7 @@ public final class TermsBoundaryTest extends Boundary {
         kinds();
         greatestDepths();
         yearsOfRest();
+        burialsInPlots();
         oldByItsKindNow();
         open();
         reached();

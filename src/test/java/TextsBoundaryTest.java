@@ -37,7 +37,8 @@ public final class TextsBoundaryTest extends Boundary {
 
     private static void lettersAndFamilies() {
         sentence("Terms, Input text",
-            "each one \"b\" or \"r\", the digit of a family, \":\", the number of a plot (0 to 39), \",\" and a number");
+            "each one \"b\" or \"r\", the digit of a family, \":\", the number of a plot (0 to 39), \",\" and a"
+            + " number");
         follows("", "br");
         follows("b", DIGITS);
         follows("r", DIGITS);
