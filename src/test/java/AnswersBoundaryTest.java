@@ -422,6 +422,26 @@ public final class AnswersBoundaryTest extends Boundary {
         onlyTells("one burial before two", then(both, g -> g.bury(4, 20, 2)), best, 39);
         onlyTells("the lowest one of two with two", then(then(both, g -> g.bury(4, 20, 2)), g -> g.bury(4, 39, 2)),
             best, 20);
+        Preparation old = then(later(g -> g.bury(9, 20, 3), 30), g -> g.reserve(4, 39, 9));
+        onlyTells("an old burial is one, too", then(old, g -> g.reserve(4, 20, 9)), best, 39);
+        Preparation oldAndNew = then(then(old, g -> g.reserve(4, 20, 9)), g -> g.bury(4, 39, 3));
+        onlyTells("an old burial is as much as a new one", oldAndNew, best, 20);
+        onlyTells("two new ones are more than an old one", then(oldAndNew, g -> g.bury(4, 39, 2)), best, 20);
+        Preparation vaults = g -> {
+            g.buildVault(4, 1);
+            g.buildVault(4, 8);
+            for (int plot : new int[] {16, 9, 2}) {
+                g.bury(9, plot, 1);
+            }
+        };
+        Preparation opened = later(then(vaults, g -> g.bury(4, 8, 3)), 2);
+        onlyTells("two vaults, both empty", vaults, best, 1);
+        onlyTells("two vaults, the less deep place costs less", opened, best, 8);
+        Preparation openedBoth = later(then(opened, g -> g.bury(4, 1, 3)), 2);
+        onlyTells("two vaults, one burial in each", openedBoth, best, 1);
+        onlyTells("two vaults, one burial and two", later(then(openedBoth, g -> g.bury(4, 8, 2)), 2), best, 8);
+        onlyTells("two vaults, one of them opened last year", later(then(openedBoth, g -> g.bury(4, 8, 2)), 1), best,
+            1);
         onlyTells("a vault costs more", g -> g.buildVault(4, 1), best, 2);
         onlyTells("rock is as good", g -> g.lay(1, ROCK), best, 1);
         onlyTells("its own plots are full, no other is reached", FULL_AT_GATE, g -> g.bestPlot(9), NONE);

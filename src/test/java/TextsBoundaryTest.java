@@ -245,10 +245,34 @@ public final class TextsBoundaryTest extends Boundary {
         };
         answers("from the present year on", years, g -> g.plot(1, 6), 53);
         answers("in the present year", years, g -> g.burial(39, 3, 1), 3);
+        loadedAsByReserve();
         sentence("Promise 12, load", "Returns how many entries are carried out.");
         answers("none", text("r0:0,1"), g -> g.load(), 0);
         answers("one", text("r0:1,1"), g -> g.load(), 1);
         answers("eight", text(FULL_LIST), g -> g.load(), 8);
+    }
+
+    private static void loadedAsByReserve() {
+        Call load = g -> g.load();
+        answers("reserves rock", thenAll(g -> g.lay(20, ROCK), text("r0:20,1")), load, 1);
+        answers("reserves no path", thenAll(g -> g.lay(20, PATH), text("r0:20,1")), load, 0);
+        answers("reserves above its own burial", thenAll(g -> g.bury(0, 20, 1), text("r0:20,1")), load, 1);
+        answers("reserves not above another's", thenAll(g -> g.bury(1, 20, 1), text("r0:20,1")), load, 0);
+        answers("reserves above another's old one", thenAll(later(g -> g.bury(1, 20, 1), 30), text("r0:20,1")), load, 1);
+        answers("reserves no vault", thenAll(g -> g.buildVault(0, 20), text("r0:20,1")), load, 0);
+        answers("reserves what is not reached", thenAll(SHUT, text("r0:20,1")), load, 1);
+        answers("buries not where it is not reached", thenAll(SHUT, text("b0:20,1")), load, 0);
+        answers("buries where another's reservation has lapsed", thenAll(later(g -> g.reserve(1, 20, 1), 2),
+            text("b0:20,1")), load, 1);
+        answers("buries not in its last year", thenAll(later(g -> g.reserve(1, 20, 1), 1), text("b0:20,1")), load, 0);
+        Preparation vault = g -> {
+            g.buildVault(0, 20);
+            g.bury(0, 20, 3);
+        };
+        answers("a vault 1 year after", thenAll(later(vault, 1), text("b0:20,2")), load, 0);
+        answers("a vault 2 years after, and twice", thenAll(later(vault, 2), text("b0:20,2;b0:20,1")), load, 1);
+        answers("sand, too deep", thenAll(g -> g.lay(20, SAND), text("b0:20,3")), load, 0);
+        answers("sand, as deep as can be", thenAll(g -> g.lay(20, SAND), text("b0:20,2")), load, 1);
     }
 
     private static void loaded(String what, String text, int done, int burials, int reservations) {
