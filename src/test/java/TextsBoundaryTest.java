@@ -258,7 +258,8 @@ public final class TextsBoundaryTest extends Boundary {
         answers("reserves no path", thenAll(g -> g.lay(20, PATH), text("r0:20,1")), load, 0);
         answers("reserves above its own burial", thenAll(g -> g.bury(0, 20, 1), text("r0:20,1")), load, 1);
         answers("reserves not above another's", thenAll(g -> g.bury(1, 20, 1), text("r0:20,1")), load, 0);
-        answers("reserves above another's old one", thenAll(later(g -> g.bury(1, 20, 1), 30), text("r0:20,1")), load, 1);
+        answers("reserves above another's old one", thenAll(later(g -> g.bury(1, 20, 1), 30), text("r0:20,1")), load,
+            1);
         answers("reserves no vault", thenAll(g -> g.buildVault(0, 20), text("r0:20,1")), load, 0);
         answers("reserves what is not reached", thenAll(SHUT, text("r0:20,1")), load, 1);
         answers("buries not where it is not reached", thenAll(SHUT, text("b0:20,1")), load, 0);
